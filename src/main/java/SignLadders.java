@@ -1259,10 +1259,13 @@ public final class SignLadders {
                 back[p] = POINTS;
             }
             back[start] = 0;
-            for (int far = 1; far < POINTS; far++) {
+            boolean grown = true;
+            for (int far = 1; far < POINTS && grown; far++) {
+                grown = false;
                 for (int p = 0; p < POINTS; p++) {
                     if (back[p] == POINTS && leastNext(p, far - 1) != NONE) {
                         back[p] = far;
+                        grown = true;
                     }
                 }
             }
@@ -1278,7 +1281,7 @@ public final class SignLadders {
         }
 
         private int leastNext(int knot, int far) {
-            for (int p = 0; p < POINTS; p++) {
+            for (int p = 0; p < POINTS && arcs[knot] != 0; p++) {
                 if (has(arcs[knot], p) && back[p] == far) {
                     return p;
                 }
@@ -1287,16 +1290,20 @@ public final class SignLadders {
         }
 
         private void measureWays() {
-            for (int round = 0; round < POINTS; round++) {
+            boolean grown = true;
+            for (int round = 0; round < POINTS && grown; round++) {
+                grown = false;
                 for (int p = 0; p < POINTS; p++) {
-                    numbers[p] = longestFrom(p);
+                    int longest = longestFrom(p);
+                    grown = grown || longest > numbers[p];
+                    numbers[p] = longest;
                 }
             }
         }
 
         private int longestFrom(int knot) {
             int longest = 0;
-            for (int p = 0; p < POINTS; p++) {
+            for (int p = 0; p < POINTS && arcs[knot] != 0; p++) {
                 if (has(arcs[knot], p)) {
                     longest = Math.max(longest, numbers[p] + 1);
                 }
