@@ -73,6 +73,9 @@ public final class PromiseTests {
         promise34();
         promise35();
         promise36();
+        wholeTape();
+        twelveRules();
+        mixedActs();
         GrammarFaults.all();
         FormulaFails.all();
         Checks.end();
@@ -84,6 +87,8 @@ public final class PromiseTests {
         due("new: fault", x.fault(), 0);
         due("new: where", x.where(), NONE);
         due("new: size 0", x.size(0), 0);
+        due("new: size 1", x.size(1), 0);
+        due("new: size 2", x.size(2), 0);
         for (int what = -1; what < 5; what++) {
             refused("new: about", x.about(what), 1);
         }
@@ -706,6 +711,65 @@ public final class PromiseTests {
         due("calls without a number leave it", x.trouble(), 6);
         due("undo has one", x.undo() ? 1 : 0, 0);
         due("undo's", x.trouble(), 1);
+    }
+
+    private static void wholeTape() {
+        x = new SignLadders();
+        String end = ";rule zz is value does value";
+        String text = "desk mixed" + " ".repeat(900 - 10 - end.length()) + end;
+        Checks.feed(x, text);
+        granted("a grammar of 900 bytes", x.grammar(900), 1);
+        Checks.feed(x, " ".repeat(898) + "12");
+        granted("a formula of 900 bytes", x.formula(900, 0), 2);
+        due("its value", x.value(1), 12);
+        Checks.feed(x, "12");
+        granted("the first byte of two digits", x.formula(1, 0), 2);
+        due("its value, too", x.value(1), 1);
+        Checks.feed(x, "1.25");
+        granted("the first three bytes of a real", x.formula(3, 0), 2);
+        due("bits of 1.2", x.value(1), Float.floatToIntBits(1.2f));
+    }
+
+    private static void twelveRules() {
+        StringBuilder eleven = new StringBuilder("desk mixed");
+        for (int i = 0; i < 11; i++) {
+            eleven.append(";rule e is value does value");
+        }
+        GrammarFaults.at(5, eleven + ";rule e is + f does same@");
+        stand(eleven + ";rule e is + e does minus");
+        due("the twelfth rule", say("+ 5", 0) * 10L + x.reduced(1), 40 + 11);
+        refused("no rule of twelve", say("+", 0), 6);
+        due("no rule of twelve: fails", x.read(0), 4);
+        due("doubles of twelve", x.doubles(), 0b11111111110);
+        for (int r = 0; r < 11; r++) {
+            due("aside", x.aside(r, 1), r + 1);
+        }
+        granted("another grammar", Checks.grammar(x, PARTS), 5);
+        for (int r = 0; r < 5; r++) {
+            due("no rule of it is aside", x.rule(r, 3), 0);
+        }
+    }
+
+    private static void mixedActs() {
+        stand(SUMS);
+        x.aside(0, 1);
+        x.kind(1);
+        for (int r = 1; r < 6; r++) {
+            x.aside(r, 1);
+            x.kind(r % 3);
+        }
+        due("ten are kept", x.size(1), 10);
+        for (int r = 5; r > 0; r--) {
+            due("kind", x.about(0), r % 3);
+            x.undo();
+            due("kind back", x.about(0), r == 1 ? 1 : (r - 1) % 3);
+            due("aside still", x.rule(r, 3), 1);
+            x.undo();
+            due("no more aside", x.rule(r, 3), 0);
+        }
+        due("the first two acts are not kept", x.undo() ? 1 : 0, 0);
+        due("rule 0 is aside", x.rule(0, 3), 1);
+        due("the desk is whole", x.about(0), 1);
     }
 
     /** Faults 1 to 6 with their places. */
