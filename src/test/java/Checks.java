@@ -2,15 +2,21 @@
 final class Checks {
     private static int made;
     private static int wrong;
+    private static String test = "";
 
     private Checks() {
+    }
+
+    /** Names the test that what is not as due is told by. */
+    static void begin(String name) {
+        test = name.isEmpty() ? "" : name + ": ";
     }
 
     static void due(String what, long got, long want) {
         made++;
         if (got != want) {
             wrong++;
-            System.out.println(what + " answered " + got + ", due is " + want);
+            System.out.println(test + what + " answered " + got + ", due is " + want);
         }
     }
 
@@ -36,7 +42,7 @@ final class Checks {
         return five;
     }
 
-    /** Empties the tape by a number that is refused nowhere, and feeds the text as a grammar. */
+    /** Feeds the text and tells it as a grammar. */
     static int grammar(SignLadders desk, String text) {
         return desk.grammar(feed(desk, text));
     }
