@@ -65,14 +65,20 @@ public final class PromiseEdgesTests extends Bench {
     }
 
     static void promise1_512CallsAreAnswered() {
-        stand(SUMS);
-        for (int i = 0; i < 490; i++) {
-            x.kind(i % 3);
+        for (int last = 0; last < 3; last++) {
+            stand(SUMS);
+            int calls = (SUMS.length() + 19) / 20 + 1;
+            for (; calls < 511; calls++) {
+                due("call " + (calls + 1), x.kind((calls + 1) % 3) >= 0 ? 1 : 0, 1);
+            }
+            if (last == 0) {
+                due("the 512th tells the kind", x.about(0), 511 % 3);
+            } else if (last == 1) {
+                due("the 512th tells the acts", x.size(1), 10);
+            } else {
+                isTrue("the 512th undoes", x.undo());
+            }
         }
-        due("ten acts", x.size(1), 10);
-        granted("the 490th", x.about(0), 489 % 3);
-        granted("behind them", x.kind(0), 0);
-        granted("a formula", say("1+2", 0), 6);
     }
 
     // ---- 2: feed
@@ -216,6 +222,47 @@ public final class PromiseEdgesTests extends Bench {
         refused("no second rule", x.rule(1, 0), 1);
         granted("relations", x.related(1) * 100 + x.related(2) * 10 + x.related(4), 101);
         granted("knots", x.knotted(), 4);
+    }
+
+    static void promise3_eachTextIsReadAnew() {
+        fresh();
+        due("a fault behind two rules", grammar("desk whole;rule a is + a - a * does add;"
+                + "rule b is b * b does add;rule a is b b"), NONE);
+        due("its place", x.where(), 77);
+        granted("two rules", grammar(rules(2, VALUE_RULE)), 2);
+        granted("one name", x.about(2), 1);
+        granted("one terminal", x.about(3), 1);
+        granted("kind", x.about(0), 0);
+        granted("a double", x.doubles(), 2);
+        granted("items", x.rule(0, 1) * 10 + x.rule(1, 1), 11);
+        fresh();
+        due("a fault behind a's and b's rules", grammar("desk mixed;rule a is value does value;"
+                + "rule b is value does value;?"), NONE);
+        due("b isn't a head in the next text", grammar("desk mixed;rule a is b does same"), NONE);
+        due("LACKS", x.fault(), 5);
+        due("MANY doesn't count the text ahead", grammar("desk mixed;rule c is + d - d * does add;"
+                + "rule d is / e ^ f ( does add;rule g is h ) h does add;?"), NONE);
+        due("FORM", x.fault(), 1);
+        granted("names of this one alone", grammar(SIX_NAMES), 6);
+        granted("six", x.about(2), 6);
+    }
+
+    static void promise3_manyGrammarsOneBehindTheOther() {
+        fresh();
+        for (int round = 0; round < 3; round++) {
+            granted("twelve rules", grammar(TWELVE_RULES), 12);
+            due("none aside", x.size(2), 0);
+            for (int r = 0; r < 12; r++) {
+                x.aside(r, 1);
+            }
+            granted("eleven terminals", grammar(ELEVEN_TERMINALS), 4);
+            due("none aside", x.size(2), 0);
+            granted("like", x.related(2), 7);
+            x.aside(0, 1);
+            granted("one rule", grammar("desk mixed;rule a is a does same"), 1);
+            granted("no relation", x.related(1) + x.related(2) + x.related(4), 0);
+            granted("no lead", x.edge(0, 0), 0);
+        }
     }
 
     // ---- 4: fault
@@ -426,6 +473,9 @@ public final class PromiseEdgesTests extends Bench {
             refused("name " + no, x.edge(no, 0), 1);
             refused("how " + no, x.edge(0, no), 1);
         }
+        x.aside(5, 1);
+        granted("lead of the last without its rule", x.edge(5, 0), 0);
+        granted("trail of the last without its rule", x.edge(5, 1), 0);
         stand(SUMS);
         refused("name 3 of 3", x.edge(3, 0), 1);
     }
@@ -470,6 +520,14 @@ public final class PromiseEdgesTests extends Bench {
         fresh();
         refused("without a grammar", x.related(1), 1);
         refused("none of these without a grammar", x.related(0), 1);
+    }
+
+    static void promise12_ofElevenTerminalsAndEnd() {
+        stand(ELEVEN_TERMINALS);
+        // / [ ! and END are below the four of lead; the four of trail are above END.
+        granted("below", x.related(1), 16);
+        granted("like", x.related(2), 7);
+        granted("above", x.related(4), 4);
     }
 
     static void promise12_twosWithMoreThanOneCountForEach() {
@@ -1096,6 +1154,24 @@ public final class PromiseEdgesTests extends Bench {
         granted("kind", x.about(0), 0);
         due("no third", x.undo() ? 1 : 0, 0);
         due("no third: trouble", x.trouble(), 1);
+    }
+
+    static void promise33_ofEachOfTwelveRules() {
+        stand(TWELVE_RULES);
+        for (int r = 0; r < 12; r++) {
+            granted("aside", x.aside(r, 1), 1);
+            isTrue("undone", x.undo());
+            granted("no more aside", x.rule(r, 3), 0);
+            due("none aside", x.size(2), 0);
+        }
+        for (int r = 11; r >= 2; r--) {
+            x.aside(r, 1);
+        }
+        for (int r = 2; r < 12; r++) {
+            isTrue("undone", x.undo());
+            granted("no more aside", x.rule(r, 3), 0);
+            due("aside", x.size(2), 11 - r);
+        }
     }
 
     static void promise33_noFormulaEither() {

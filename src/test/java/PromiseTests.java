@@ -540,6 +540,7 @@ public final class PromiseTests {
         float s = 1f;
         float d = -1.7f;
         for (int i = 0; i < 28; i++) {
+            stand(ALL_DEEDS);
             great.append("*97.9");
             g *= 979 / 10f;
             small.append("*0.037");

@@ -46,9 +46,7 @@ public final class TermIIITests extends Bench {
 
     static void termIII_aRealIsItsDigitsAsAFloatByTenAHundredOrAThousand() {
         for (int digits = 1; digits < 10000; digits += 7) {
-            if (digits % 40 == 1) {
-                stand(ALL_DEEDS);
-            }
+            stand(ALL_DEEDS);
             String four = String.valueOf(10000 + digits).substring(1);
             isReal(four.charAt(0) + "." + four.substring(1), (float) digits / 1000f);
             isReal(four.substring(0, 2) + "." + four.substring(2), (float) digits / 100f);
@@ -223,6 +221,10 @@ public final class TermIIITests extends Bench {
         isWhole("7/~2", -3);
         isWhole("~7/~2", 3);
         isWhole("0/5", 0);
+        isWhole("7/1", 7);
+        isWhole("7/~1", -7);
+        isWhole("7/7", 1);
+        isWhole("6/7", 0);
     }
 
     static void termIII_wholeOver0IsZero() {
@@ -262,6 +264,112 @@ public final class TermIIITests extends Bench {
         isReal("0.0+(4096*4096+3)", 16777220f);
         isReal("1024*1024*2048*1.0", -2147483648f);
         isReal("0.1+0.2", 1 / 10f + 2 / 10f);
+    }
+
+    private static final float INFINITE = Float.POSITIVE_INFINITY;
+
+    static void termIII_sumsOfFloatsAtTheirEdges() {
+        stand(ALL_DEEDS);
+        isReal("~0.0+~0.0", -0f);
+        isReal("~0.0+0.0", 0f);
+        isReal("0.0+~0.0", 0f);
+        isReal("0.0-0.0", 0f);
+        isReal("~0.0-0.0", -0f);
+        isReal("0.0-~0.0", 0f);
+        isReal("1.5-1.5", 0f);
+        isReal("~1.5+1.5", 0f);
+        isReal("1.5-4", -2.5f);
+        stand(ALL_DEEDS);
+        isReal("1/0.0+1", INFINITE);
+        isReal("1+1/0.0", INFINITE);
+        isReal("1-1/0.0", -INFINITE);
+        isReal("1/0.0+1/0.0", INFINITE);
+        isReal("1/0.0-1", INFINITE);
+        isReal("~1/0.0-1/0.0", -INFINITE);
+        isReal("~1/0.0+1/0.0", Float.NaN);
+        isReal("0/0.0+1", Float.NaN);
+        isReal("1+0/0.0", Float.NaN);
+        isReal("1/0.0-0/0.0", Float.NaN);
+        isReal("0/0.0-1/0.0", Float.NaN);
+    }
+
+    static void termIII_productsOfFloatsAtTheirEdges() {
+        stand(ALL_DEEDS);
+        isReal("0.0*5", 0f);
+        isReal("5*0.0", 0f);
+        isReal("~0.0*5", -0f);
+        isReal("5*~0.0", -0f);
+        isReal("~0.0*~5", 0f);
+        isReal("(1/0.0)*2", INFINITE);
+        isReal("2*(1/0.0)", INFINITE);
+        isReal("(1/0.0)*~2", -INFINITE);
+        isReal("(1/0.0)*(1/0.0)", INFINITE);
+        stand(ALL_DEEDS);
+        isReal("(1/0.0)*0.0", Float.NaN);
+        isReal("(1/0.0)*0", Float.NaN);
+        isReal("0.0*(1/0.0)", Float.NaN);
+        isReal("(0/0.0)*2", Float.NaN);
+        isReal("2*(0/0.0)", Float.NaN);
+        isReal("(0/0.0)*(1/0.0)", Float.NaN);
+        isReal("0.0*(0/0.0)", Float.NaN);
+    }
+
+    static void termIII_quotientsOfFloatsAtTheirEdges() {
+        stand(ALL_DEEDS);
+        isReal("0.0/5", 0f);
+        isReal("~0.0/5", -0f);
+        isReal("0.0/~5", -0f);
+        isReal("5/(1/0.0)", 0f);
+        isReal("~5/(1/0.0)", -0f);
+        isReal("0.0/(1/0.0)", 0f);
+        isReal("1/0.0/5", INFINITE);
+        isReal("1/0.0/~5", -INFINITE);
+        isReal("1/0.0/0", INFINITE);
+        stand(ALL_DEEDS);
+        isReal("(1/0.0)/(1/0.0)", Float.NaN);
+        isReal("0/0.0/2", Float.NaN);
+        isReal("2/(0/0.0)", Float.NaN);
+        isReal("(1/0.0)/(0/0.0)", Float.NaN);
+        isReal("0/0.0/(1/0.0)", Float.NaN);
+        isReal("0/0.0/0", Float.NaN);
+        isReal("0.0/(0/0.0)", Float.NaN);
+    }
+
+    static void termIII_theGreatestFloatAndTheNext() {
+        stand(ALL_DEEDS);
+        String most = "=(4096*4096-1)" + "*4096".repeat(8) + "*256";
+        isReal(most, Float.MAX_VALUE);
+        isReal("~" + most, -Float.MAX_VALUE);
+        isReal(most + "*1.5", INFINITE);
+        isReal("~" + most + "*1.5", -INFINITE);
+        isReal(most + "/2", Float.MAX_VALUE / 2);
+        isReal(most + "+1", Float.MAX_VALUE);
+        isReal("(" + most + ")+(" + most + ")", INFINITE);
+        isReal("~(" + most + ")-(" + most + ")", -INFINITE);
+        isReal("1/(" + most + ")", 1 / Float.MAX_VALUE);
+    }
+
+    static void termIII_theLeastFloatsAndZero() {
+        stand(ALL_DEEDS);
+        String normal = "1.0" + "/4096".repeat(10) + "/64";
+        isReal(normal, Float.MIN_NORMAL);
+        isReal(normal + "/2", Float.MIN_NORMAL / 2);
+        isReal(normal + "/3", Float.MIN_NORMAL / 3);
+        isReal("~(" + normal + ")/3", -Float.MIN_NORMAL / 3);
+        isReal(normal + "*3", Float.MIN_NORMAL * 3);
+        String least = "1.0" + "/4096".repeat(12) + "/32";
+        isReal(least, Float.MIN_VALUE);
+        isReal("~" + least, -Float.MIN_VALUE);
+        isReal(least + "*7/2", Float.MIN_VALUE * 7 / 2);
+        isReal(least + "*0.5", 0f);
+        stand(ALL_DEEDS);
+        isReal(least + "*0.501", Float.MIN_VALUE);
+        isReal(least + "*~0.5", -0f);
+        isReal(least + "/2*2", 0f);
+        isReal(least + "*4096*4096*4096", Float.MIN_VALUE * 4096 * 4096 * 4096);
+        isReal("1/(" + least + ")", INFINITE);
+        isReal(least + "-1", -1f);
+        isReal("(" + least + ")-(" + least + ")", 0f);
     }
 
     static void termIII_minusIsOfItsKind() {
@@ -417,6 +525,10 @@ public final class TermIIITests extends Bench {
         fails(4, "1 * @+ 2");
         fails(4, "1 2@", 1);
         counts("1 2 by functions", 2, 3, 1, 2);
+        stand(rules(11, VALUE_RULE) + ";rule e is + e does minus");
+        reads("+5", 4);
+        fails(4, "+@");
+        fails(4, "5+@", 1);
     }
 
     static void termIII_failsHaveThePlaceOfTheTokenNext() {

@@ -180,31 +180,58 @@ public final class TermIITests extends Bench {
 
     // ---- functions
 
-    static void termII_numbersAreTheLongestWays() {
-        // Five ladders: G of the i-th sign is over F of the one ahead, F of it over G of it.
-        stand("desk mixed;rule a is a + b does add;rule a is b does same;rule b is b - c does less;"
-                + "rule b is c does same;rule c is c * d does times;rule c is d does same;"
-                + "rule d is d / e does over;rule d is e does same;rule e is e ^ f does add;"
-                + "rule e is f does same;rule f is value does value");
-        for (int i = 0; i < 5; i++) {
-            granted("F of sign " + i, x.function(i, 0), 2 * i + 2);
-            granted("G of sign " + i, x.function(i, 1), 2 * i + 1);
+    /** G of the i-th sign is over F of the one ahead, F of it over G of it; value is over all. */
+    private static final String FIVE_LADDERS =
+            "desk mixed;rule a is a + b does add;rule a is b does same;rule b is b - c does less;"
+            + "rule b is c does same;rule c is c * d does times;rule c is d does same;"
+            + "rule d is d / e does over;rule d is e does same;rule e is e ^ f does add;"
+            + "rule e is f does same;rule f is value does value";
+
+    private static void numbers(String what, int[] f, int[] g) {
+        int most = 0;
+        for (int t = 0; t < f.length; t++) {
+            granted(what + ": F of " + t, x.function(t, 0), f[t]);
+            granted(what + ": G of " + t, x.function(t, 1), g[t]);
+            most = Math.max(most, Math.max(f[t], g[t]));
         }
-        granted("F of value", x.function(5, 0), 10);
-        granted("G of value", x.function(5, 1), 11);
-        granted("F of END", x.function(6, 0), 0);
-        granted("G of END", x.function(6, 1), 0);
-        granted("the greatest", x.highest(), 11);
+        granted(what + ": the greatest", x.highest(), most);
+    }
+
+    static void termII_numbersAreTheLongestWays() {
+        stand(FIVE_LADDERS);
+        numbers("five ladders", new int[] {2, 4, 6, 8, 10, 10, 0}, new int[] {1, 3, 5, 7, 9, 11, 0});
+    }
+
+    static void termII_numbersAreReckonedAnew() {
+        stand(FIVE_LADDERS);
+        x.aside(8, 1);
+        numbers("without ^", new int[] {2, 4, 6, 8, 0, 8, 0}, new int[] {1, 3, 5, 7, 0, 9, 0});
+        x.aside(0, 1);
+        numbers("without + and ^", new int[] {0, 2, 4, 6, 0, 6, 0}, new int[] {0, 1, 3, 5, 0, 7, 0});
+        x.aside(4, 1);
+        numbers("- and / alone", new int[] {0, 2, 0, 4, 0, 4, 0}, new int[] {0, 1, 0, 3, 0, 5, 0});
+        x.aside(10, 1);
+        numbers("without value", new int[] {0, 2, 0, 4, 0, 0, 0}, new int[] {0, 1, 0, 3, 0, 0, 0});
+        x.aside(1, 1);
+        // Nothing leads from START: END is out of it, and - is over itself alone.
+        numbers("without a is b", new int[] {0, 1, 0, 3, 0, 0, 0}, new int[] {0, 0, 0, 2, 0, 0, 0});
+        granted("another grammar", grammar("desk mixed;rule a is value does value"), 1);
+        numbers("value alone", new int[] {1, 0}, new int[] {1, 0});
     }
 
     static void termII_numbersHoldTheRelations() {
-        for (String text : new String[] {SUMS, ALL_DEEDS, BEHIND}) {
+        for (String text : new String[] {SUMS, ALL_DEEDS, BEHIND, FIVE_LADDERS}) {
             stand(text);
-            for (int a = 0; a <= x.about(3); a++) {
-                for (int b = 0; b <= x.about(3); b++) {
-                    int f = x.function(a, 0);
-                    int g = x.function(b, 1);
-                    int by = f < g ? 1 : f == g ? 2 : 4;
+            int end = x.about(3);
+            int[] f = new int[end + 1];
+            int[] g = new int[end + 1];
+            for (int t = 0; t <= end; t++) {
+                f[t] = x.function(t, 0);
+                g[t] = x.function(t, 1);
+            }
+            for (int a = 0; a <= end; a++) {
+                for (int b = 0; b <= end; b++) {
+                    int by = f[a] < g[b] ? 1 : f[a] == g[b] ? 2 : 4;
                     int told = x.relation(a, b);
                     isTrue("numbers of " + a + " and " + b, told == 0 || told == by);
                 }
@@ -267,6 +294,10 @@ public final class TermIITests extends Bench {
         stand(RINGED);
         granted("no clash", x.clashes(), 0);
         ring(1, 18, 3, 16);
+        // From G of / an arc leads to F of - as well, which is less than all, and no further.
+        stand(RINGED.replace("rule m is - q", "rule m is - k"));
+        granted("- below /", x.relation(0, 2), 1);
+        ring(1, 18, 3, 16);
     }
 
     static void termII_aRingByTheShortestWayBack() {
@@ -293,6 +324,20 @@ public final class TermIITests extends Bench {
                 + "rule n is n + does same;rule w is w * does same;rule w is w / does same;"
                 + "rule q is ^ q does same;rule r is - r does same");
         ring(0, 18, 3, 17);
+    }
+
+    static void termII_numbersBehindARing() {
+        stand(CLASHING);
+        ring(0, 16);
+        x.aside(0, 1);
+        ring();
+        granted("F of value over G of END", x.function(1, 0), 1);
+        granted("G of value over F of END", x.function(1, 1), 1);
+        granted("F of +", x.function(0, 0), 0);
+        granted("G of +", x.function(0, 1), 0);
+        x.aside(0, 0);
+        ring(0, 16);
+        refused("none again", x.function(1, 0), 5);
     }
 
     static void termII_withARingThereAreNoNumbers() {

@@ -197,18 +197,44 @@ public final class TermIVTests extends Bench {
         due("one is aside", x.size(2), 1);
     }
 
-    static void termIV_twentyFiveActs() {
+    static void termIV_twentySixActs() {
         stand(SUMS);
-        for (int i = 1; i <= 25; i++) {
+        for (int i = 1; i <= 26; i++) {
             granted("kind", x.kind(i % 3), (i - 1) % 3);
             due("acts", x.size(1), Math.min(i, 10));
         }
-        for (int i = 24; i >= 15; i--) {
+        for (int i = 25; i >= 16; i--) {
             undone("act " + i, true);
             granted("kind behind it", x.about(0), i % 3);
         }
         undone("no more", false);
-        granted("kind stays", x.about(0), 0);
+        granted("kind stays", x.about(0), 16 % 3);
+    }
+
+    static void termIV_thirteenActsOfBothSorts() {
+        stand(rules(12, VALUE_RULE));
+        int[] kinds = new int[14];
+        int[] aside = new int[14];
+        for (int i = 1; i <= 13; i++) {
+            kinds[i] = i % 2 == 0 ? i / 2 % 3 : kinds[i - 1];
+            aside[i] = aside[i - 1] | (i % 2 == 1 ? 1 << i / 2 : 0);
+            if (i % 2 == 0) {
+                x.kind(kinds[i]);
+            } else {
+                x.aside(i / 2, 1);
+            }
+        }
+        for (int i = 12; i >= 3; i--) {
+            undone("act " + i, true);
+            granted("kind behind " + i + " acts", x.about(0), kinds[i]);
+            int bits = 0;
+            for (int r = 0; r < 12; r++) {
+                bits |= x.rule(r, 3) << r;
+            }
+            granted("aside behind " + i + " acts", bits, aside[i]);
+        }
+        undone("no more", false);
+        due("two are aside still", x.size(2), 2);
     }
 
     static void termIV_theLatestActNotUndoneYet() {
